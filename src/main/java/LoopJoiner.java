@@ -675,17 +675,18 @@ public final class LoopJoiner {
             return both != 0 ? LOOKS_WITH_WRITTEN : 0;
         }
 
-        /** The first part is the steps of the loop k ahead of end, the second one those of other from start on. */
+        /** The parts are the steps of the loop k ahead of end, and those of the loop other from start on. */
         private static int againstParts(Program program, int k, int end, int other, int start) {
             int steps = program.countSteps(other);
             if (hasDeed(program, k, 0, end, EXIT) && hasDeed(program, other, start, steps, EXIT)) {
                 return BOTH_EXIT;
             }
+            // COUNT and ADD read just what they write, so that beside the writes the looks are enough.
             int writes = writtenBy(program, k, 0, end);
-            int reads = lookedWithBy(program, k, 0, end) | addedToBy(program, k, 0, end);
+            int looks = lookedWithBy(program, k, 0, end);
             int otherWrites = writtenBy(program, other, start, steps);
-            int otherReads = lookedWithBy(program, other, start, steps) | addedToBy(program, other, start, steps);
-            boolean areApart = (writes & (otherWrites | otherReads)) == 0 && (otherWrites & reads) == 0;
+            int otherLooks = lookedWithBy(program, other, start, steps);
+            boolean areApart = (writes & (otherWrites | otherLooks)) == 0 && (otherWrites & looks) == 0;
             return areApart ? 0 : NOT_APART;
         }
 
@@ -732,18 +733,6 @@ public final class LoopJoiner {
                 }
             }
             return written;
-        }
-
-        /** What COUNT and ADD read, because they write a variable by its old number. */
-        private static int addedToBy(Program program, int k, int from, int end) {
-            int addedTo = 0;
-            for (int step = from; step < end; step++) {
-                int deed = program.stepFact(k, step, DEED);
-                if (deed == COUNT || deed == ADD) {
-                    addedTo |= 1 << program.stepFact(k, step, OF);
-                }
-            }
-            return addedTo;
         }
 
         private static int lookedWithBy(Program program, int k, int from, int end) {

@@ -468,6 +468,8 @@ public final class PromisesTest {
         expectReason("divide: both parts EXIT", 3, DIVIDE, 0, 1, left);
         expectReason("divide: one part has both", 4, DIVIDE, 0, 3, left);
         expectReason("divide: apart", 0, DIVIDE, 0, 1, new int[] {2, 3, 0, ALWAYS, 0, COUNT, 0, EQUAL, 2, EXIT, 1});
+        expectReason("divide: each part looks with its own", 0, DIVIDE, 0, 1,
+                new int[] {0, 0, 1, LESS, 1000, SET, 0, LESS, 1001, SET, 1});
         expectReason("divide: of a later loop", 0, DIVIDE, 1, 1, three,
                 new int[] {0, 0, 1, ALWAYS, 0, COUNT, 0, ALWAYS, 0, SET, 1});
     }
@@ -496,6 +498,8 @@ public final class PromisesTest {
                 new int[] {0, 0, 1, EQUAL, 1000, SET, 0, EQUAL, 1, EXIT, 1, EQUAL, 2, EXIT, 0});
         expectReason("turn: the code 0 and another one", 9, TURN, 0, 0,
                 new int[] {0, 0, 1, EQUAL, 1, EXIT, 0, EQUAL, 2, EXIT, 0, EQUAL, 3, EXIT, 7});
+        expectReason("turn: two codes at the start", 9, TURN, 0, 0,
+                new int[] {0, 0, 1, EQUAL, 1, EXIT, 4, EQUAL, 2, EXIT, 5});
         expectReason("turn: one code twice", 0, TURN, 0, 0, new int[] {0, 0, 0, EQUAL, 1, EXIT, 7, EQUAL, 2, EXIT, 7});
         expectReason("turn: SET, ahead of its looks", 10, TURN, 0, 0, new int[] {0, 0, 1, EQUAL, 1000, SET, 0});
         expectReason("turn: MARK", 10, TURN, 0, 0, new int[] {0, 0, 1, EQUAL, 3, MARK, 0});
@@ -562,6 +566,11 @@ public final class PromisesTest {
                 new int[] {3, 1, 0, ALWAYS, 0, COUNT, 0, EQUAL, 4, SET, 1, LESS, -4, EXIT, 77},
                 new int[] {3, 1, 0, ALWAYS, 1001, MARK, 3}, tail);
         expectProgram("divide: old", joiner, 0, head, old, tail);
+        int[] first = {0, 0, 1, ALWAYS, 0, COUNT, 0};
+        int[] second = {0, 0, 1, ALWAYS, 0, EXIT, 1};
+        int both = addProgramOf(joiner, new int[] {0, 0, 1, ALWAYS, 0, COUNT, 0, ALWAYS, 0, EXIT, 1});
+        int divided = joiner.change(both, DIVIDE, 0, 1);
+        expectProgram("divide: and strip", joiner, joiner.change(divided, STRIP, 0, 0), first, second);
     }
 
     private static void changePeel() {
@@ -604,6 +613,7 @@ public final class PromisesTest {
         expectProgram("strip", joiner, 1, new int[] {0, 0, 1, EQUAL, 3, EXIT, 1, ALWAYS, 1000, BREAK, 0},
                 new int[] {1, 0, 0, ALWAYS, 7, EXIT, 4}, new int[] {0, 1, 1, LESS, 2, BREAK, 0, ALWAYS, 0, COUNT, 3});
         checks.same("strip: the old one stays", joiner.loops(0), 7);
+        checks.same("strip: the code that is left out does not count", joiner.reason(1, TURN, 1, 0), 0);
         joiner.addProgram();
         checks.same("change: strip without loops", joiner.change(2, STRIP, 0, 0), 3);
         checks.same("strip: without loops", joiner.loops(3), 0);
@@ -612,6 +622,8 @@ public final class PromisesTest {
         checks.same("strip: of all", joiner.loops(5), 0);
         checks.same("strip: a loop may be added again", joiner.addLoop(5, 1, 1, true), 0);
         checks.same("strip: it is without steps", joiner.loop(5, 0, 3), 0);
+        checks.same("strip: a loop behind those that are left", joiner.addLoop(1, 1, 1, true), 3);
+        checks.same("strip: that one is without steps", joiner.loop(1, 3, 3), 0);
     }
 
     private static void changeRefused() {
@@ -638,7 +650,11 @@ public final class PromisesTest {
                 new int[] {0, 0, 1, ALWAYS, 0, COUNT, 0, ALWAYS, 0, COUNT, 1, ALWAYS, 0, COUNT, 2},
                 new int[] {0, 0, 0}, new int[] {0, 0, 1, ALWAYS, 0, COUNT, 0, ALWAYS, 0, COUNT, 2, ALWAYS, 0, COUNT, 1});
         checks.same("joinAll: again", joiner.joinAll(0), 0);
+        joiner.put(1);
+        expectRun("joinAll: the joined loops are gone", joiner, -1, 2, 2, 2, 0, 6);
         checks.same("joinAll: makes no program", joiner.programs(), 1);
+        checks.same("joinAll: a loop behind those that are left", joiner.addLoop(0, 0, 0, true), 3);
+        checks.same("joinAll: that one is without steps", joiner.loop(0, 3, 3), 0);
         LoopJoiner least = joinerOf(zero, new int[] {0, 0, 1, ALWAYS, 0, ADD, 0},
                 new int[] {0, 0, 1, ALWAYS, 0, ADD, 1, ALWAYS, 0, ADD, 1, ALWAYS, 0, ADD, 1, ALWAYS, 0, ADD, 1},
                 new int[] {0, 0, 1, ALWAYS, 0, ADD, 2, ALWAYS, 0, ADD, 2});
@@ -671,6 +687,8 @@ public final class PromisesTest {
         checks.same("differ: left or not", joiner.differ(0, 3, 2, 3), 5);
         checks.same("differ: the variables count only where neither was left", joiner.differ(3, 4, 2, 3), 2);
         checks.same("differ: other codes", joiner.differ(3, 5, 2, 3), 5);
+        addProgramOf(joiner, new int[] {0, 0, 1, ALWAYS, 0, EXIT, 0});
+        checks.same("differ: on all rows", joiner.differ(0, 6, 3, 3), 27);
         checks.same("differ: from itself", joiner.differ(4, 4, 5, 4), 0);
         checks.same("differ: 1024 rows", joiner.differ(0, 3, 5, 4), 1024 - 243);
         checks.same("differ: one value", joiner.differ(0, 3, 6, 1), 0);
@@ -689,6 +707,8 @@ public final class PromisesTest {
         checks.same("firstCase: none", joiner.firstCase(0, 1, 3, 3), -1);
         checks.same("firstCase: the last number is a 3", joiner.firstCase(0, 1, 3, 4), 3);
         checks.same("firstCase: the first number is the highest digit", joiner.firstCase(0, 2, 4, 4), 128);
+        checks.same("firstCase: each call begins anew", joiner.firstCase(0, 2, 4, 4), 128);
+        checks.same("firstCase: and those of others", joiner.cost(4, 4, 4, false), 256);
         checks.same("firstCase: the last number is the lowest digit", joiner.firstCase(0, 3, 4, 4), 2);
         checks.same("firstCase: the first row", joiner.firstCase(0, 4, 2, 2), 0);
         checks.same("firstCase: no numbers", joiner.firstCase(0, 4, 0, 2), -1);
