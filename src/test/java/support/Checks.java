@@ -47,6 +47,10 @@ final class Checks {
         }
     }
 
+    int countMade() {
+        return made;
+    }
+
     private void tell(String line) {
         wrong++;
         if (wrong <= 50) {
