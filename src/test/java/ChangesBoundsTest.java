@@ -387,6 +387,99 @@ public final class ChangesBoundsTest extends Bench {
         desk.holds(0, eight);
     }
 
+    // ---- the loops beside those that are changed
+
+    /** Six steps, others in each loop k: no BREAK, one EXIT at most, and variables of its own for k and k + 1. */
+    private static int[] sixOf(int k) {
+        int v = 2 * (k % 2);
+        return new int[] {LESS, k, COUNT, v, OTHER, -k, ADD, v, EQUAL, 10 + k, COUNT, v,
+            GREATER, 100 - k, COUNT, v + 1, LESS, 20 + k, ADD, v + 1, OTHER, 30 + k, ADD, v + 1};
+    }
+
+    private static int[][] fullLoops(int count) {
+        int[][] loops = new int[count][];
+        for (int k = 0; k < count; k++) {
+            loops[k] = loop(k % 5, k % 5, UP, sixOf(k));
+        }
+        return loops;
+    }
+
+    /** The loops with those from k to end - 1 replaced by others. */
+    private static int[][] replaced(int[][] loops, int k, int end, int[]... others) {
+        int[][] fresh = Arrays.copyOf(loops, loops.length - (end - k) + others.length);
+        System.arraycopy(others, 0, fresh, k, others.length);
+        System.arraycopy(loops, end, fresh, k + others.length, loops.length - end);
+        return fresh;
+    }
+
+    private static void makes(int[][] old, int change, int k, int with, int[]... due) {
+        Desk desk = new Desk();
+        desk.program(old);
+        desk.answers(1, j -> j.change(0, change, k, with));
+        desk.holds(1, due);
+        Desk after = new Desk();
+        after.program(old);
+        after.answers(1, j -> j.change(0, change, k, with));
+        after.holds(0, old);
+    }
+
+    @Sentence(promise = 14, value = "a new program, which is like the old one but for what is told: of 7 and 8 loops of 6 steps")
+    private static void changesNothingElse() {
+        for (int count : new int[] {7, 8}) {
+            int[][] full = fullLoops(count);
+            for (int k = 0; k < count; k++) {
+                int number = k % 5;
+                int[] six = sixOf(k);
+                makes(full, TURN, k, 0, replaced(full, k, k + 1, loop(number, number, DOWN, six)));
+                if (k + 1 < count) {
+                    makes(full, SWAP, k, 0, replaced(full, k, k + 2, full[k + 1], full[k]));
+                }
+            }
+            makes(full, STRIP, 0, 0, full);
+        }
+        int[][] seven = fullLoops(7);
+        for (int k = 0; k < 7; k++) {
+            int number = k % 5;
+            int[] six = sixOf(k);
+            makes(seven, DIVIDE, k, 3, replaced(seven, k, k + 1, loop(number, number, UP, Arrays.copyOf(six, 12)),
+                    loop(number, number, UP, Arrays.copyOfRange(six, 12, 24))));
+            makes(seven, PEEL, k, number + 6, replaced(seven, k, k + 1, loop(number, 5, UP, six), loop(number + 1, number, UP, six)));
+        }
+    }
+
+    @Sentence(promise = 14, value = "join: the other loops stay, of 8 with 6 steps")
+    private static void joinChangesNothingElse() {
+        int[][] seven = fullLoops(7);
+        for (int k = 0; k < 7; k++) {
+            int[] six = sixOf(k);
+            int[] first = loop(2, 1, DOWN, Arrays.copyOf(six, 12));
+            int[] second = loop(2, 1, DOWN, Arrays.copyOfRange(six, 12, 24));
+            makes(replaced(seven, k, k + 1, first, second), JOIN, k, 0, replaced(seven, k, k + 1, loop(2, 1, DOWN, six)));
+            makes(replaced(seven, k, k + 1, all(), all()), JOIN, k, 0, replaced(seven, k, k + 1, all()));
+            makes(replaced(seven, k, k + 1, all(), all()), STRIP, 0, 0, replaced(seven, k, k + 1));
+        }
+    }
+
+    @Sentence(promise = 14, value = "what a change left out is in no later change")
+    private static void changesForgetWhatIsLeftOut() {
+        Desk desk = new Desk();
+        desk.program(all(joined(COUNT_0, new int[] {ALWAYS, 0, EXIT, 1})));
+        desk.answers(1, j -> j.change(0, DIVIDE, 0, 1));
+        desk.answers(2, j -> j.change(1, STRIP, 0, 0));
+        desk.holds(2, all(COUNT_0), all(ALWAYS, 0, EXIT, 1));
+        desk.answersAlone(0, j -> j.reason(1, SWAP, 0, 0));
+        desk.program(all(ALWAYS, 0, EXIT, 4, ALWAYS, 0, EXIT, 5, ALWAYS, 0, SET, 0, ALWAYS, 0, BREAK, 0, EQUAL, 1001, COUNT, 1),
+                all(EQUAL, 1000, COUNT, 1));
+        desk.answersAlone(2, j -> j.reason(3, TURN, 0, 0));
+        desk.answersAlone(2, j -> j.reason(3, JOIN, 0, 0));
+        desk.answersAlone(4, j -> j.reason(3, SWAP, 0, 0));
+        desk.answers(4, j -> j.change(3, STRIP, 0, 0));
+        desk.answersAlone(0, j -> j.reason(4, TURN, 0, 0));
+        desk.answersAlone(0, j -> j.reason(4, JOIN, 0, 0));
+        desk.answersAlone(0, j -> j.reason(4, SWAP, 0, 0));
+        desk.refused(ARGUMENT, j -> j.reason(4, DIVIDE, 0, 1));
+    }
+
     // ---- divide
 
     @Sentence(promise = 13, value = "divide 2, it has a BREAK: at any step")
@@ -430,6 +523,12 @@ public final class ChangesBoundsTest extends Bench {
                 reason(0, DIVIDE, 0, 1, all(ALWAYS, 0, COUNT, v, ALWAYS, 1000 + other, EXIT, 0));
             }
         }
+        int[] own0 = {LESS, 1000, SET, 0};
+        int[] own1 = {LESS, 1001, SET, 1};
+        reason(0, DIVIDE, 0, 1, all(joined(own0, own1)));
+        reason(0, DIVIDE, 0, 2, all(joined(own0, own0, own1, own1)));
+        reason(4, DIVIDE, 0, 1, all(joined(own0, own0, own1, own1)));
+        reason(4, DIVIDE, 0, 3, all(joined(own0, own0, own1, own1)));
     }
 
     @Sentence(promise = 13, value = "divide 6, there would be more than 8 loops")

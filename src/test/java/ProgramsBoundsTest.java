@@ -217,6 +217,27 @@ public final class ProgramsBoundsTest extends Bench {
         desk.holds(0, full, loop(2, 1, UP), loop(0, 5, DOWN));
     }
 
+    @Sentence(promise = 3, value = "Adds a loop without steps: where a loop with steps was before, too")
+    private static void addsEmptyLoopsWhereOthersWere() {
+        int[] first = all(repeated(3, COUNT_STEP));
+        int[] second = all(repeated(3, ALWAYS, 0, COUNT, 1));
+        int[] both = all(ALWAYS, 0, COUNT, 0, ALWAYS, 0, COUNT, 0, ALWAYS, 0, COUNT, 0,
+                ALWAYS, 0, COUNT, 1, ALWAYS, 0, COUNT, 1, ALWAYS, 0, COUNT, 1);
+        Desk desk = new Desk();
+        desk.program(all(), first, second);
+        desk.answers(1, j -> j.change(0, JOIN, 1, 0));
+        desk.answers(2, j -> j.change(0, STRIP, 0, 0));
+        desk.answers(2, j -> j.joinAll(0));
+        for (int program : new int[] {0, 1, 2}) {
+            int due = program == 0 ? 1 : 2;
+            desk.answers(due, j -> j.addLoop(program, 2, 3, false));
+        }
+        desk.holds(0, both, loop(2, 3, DOWN));
+        desk.holds(1, all(), both, loop(2, 3, DOWN));
+        desk.holds(2, first, second, loop(2, 3, DOWN));
+        desk.answers(0, j -> j.addStep(2, 2, ALWAYS, 0, MARK, 3));
+    }
+
     @Sentence(promise = 3, value = "the exception that is named first: no program, then skip and stop, then 8 loops")
     private static void addLoopRefusesInOrder() {
         Desk desk = new Desk();
